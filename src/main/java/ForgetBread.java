@@ -402,7 +402,7 @@ public final class ForgetBread {
             return NONE;
         }
         int mind = search.start(now.town, now.mind(person), NO_LIMIT);
-        while (mind != NONE && ((mind & gone) != 0 || (kept & ~mind) != 0)) {
+        for (int left = SETS; left > 0 && mind != NONE && ((mind & gone) != 0 || (kept & ~mind) != 0); left--) {
             mind = search.next();
         }
         return search.tell(mind, what);
@@ -415,7 +415,7 @@ public final class ForgetBread {
             return NONE;
         }
         int mind = search.start(now.town, now.mind(person), NO_LIMIT);
-        while (mind != NONE && hasByEvening(now, person, mind, fact)) {
+        for (int left = SETS; left > 0 && mind != NONE && hasByEvening(now, person, mind, fact); left--) {
             mind = search.next();
         }
         return search.tell(mind, what);
@@ -452,12 +452,14 @@ public final class ForgetBread {
     private int bestMind(Folk now, int person, int m) {
         int best = search.start(now.town, now.mind(person), m);
         int most = now.town.worthOf(best);
-        for (int mind = search.next(); mind != NONE; mind = search.next()) {
+        int mind = best;
+        for (int left = SETS; left > 0 && mind != NONE; left--) {
             int worth = now.town.worthOf(mind);
             if (worth > most) {
                 most = worth;
                 best = mind;
             }
+            mind = search.next();
         }
         return best;
     }
@@ -506,13 +508,16 @@ public final class ForgetBread {
         int most = NONE;
         int parts = 0;
         int wentInAll = 0;
-        for (int part = mind; part >= 0; part = nextPart(part, mind)) {
+        // All parts of a set, from itself down to 0 by their numbers: (part - 1) & set is the next one.
+        int part = mind;
+        for (int left = 1 << Integer.bitCount(mind); left > 0; left--) {
             int size = Integer.bitCount(part);
             if (size >= most && asked.isClosed(part) && asked.does(part, can, cannot)) {
                 parts = size > most ? 1 : parts + 1;
                 wentInAll = (size > most ? mind : wentInAll) & ~part;
                 most = size;
             }
+            part = (part - 1) & mind;
         }
         if (most == NONE) {
             return NONE;
@@ -600,10 +605,12 @@ public final class ForgetBread {
         }
         int rest = now.mind(person) & ~(1 << fact);
         int ways = 0;
-        for (int part = rest; part >= 0; part = nextPart(part, rest)) {
+        int part = rest;
+        for (int left = 1 << Integer.bitCount(rest); left > 0; left--) {
             if (now.town.isWay(part, fact)) {
                 ways++;
             }
+            part = (part - 1) & rest;
         }
         return ways;
     }
@@ -616,11 +623,13 @@ public final class ForgetBread {
         int rest = now.mind(person) & ~(1 << fact);
         int any = 0;
         int each = rest;
-        for (int part = rest; part >= 0; part = nextPart(part, rest)) {
+        int part = rest;
+        for (int left = 1 << Integer.bitCount(rest); left > 0; left--) {
             if (now.town.isWay(part, fact)) {
                 any |= part;
                 each &= part;
             }
+            part = (part - 1) & rest;
         }
         // Of a way at least one fact is in it, so without ways nothing leans.
         return any == 0 || !needs ? any : each;
@@ -671,12 +680,14 @@ public final class ForgetBread {
         }
         int free = pool & ~must;
         int best = pool;
-        for (int part = free; part >= 0; part = nextPart(part, free)) {
+        int part = free;
+        for (int left = 1 << Integer.bitCount(free); left > 0; left--) {
             int set = must | part;
             int less = Integer.bitCount(best) - Integer.bitCount(set);
             if (less >= 0 && keepsAway(now, how, person, fact, set)) {
                 best = set;
             }
+            part = (part - 1) & free;
         }
         return best;
     }
@@ -736,11 +747,6 @@ public final class ForgetBread {
 
     private static boolean isKind(int kind) {
         return kind >= 0 && kind <= LATE;
-    }
-
-    /** The parts of a set from the set itself down to 0, by numbers; NONE behind 0. */
-    private static int nextPart(int part, int set) {
-        return part <= 0 ? NONE : part - 1 & set;
     }
 
     /** Rows of numbers, as many as were told, up to a limit. */
@@ -883,7 +889,7 @@ public final class ForgetBread {
             return close(set) == set;
         }
 
-        /** The largest closed part with none of some and all of others, of several the greatest number; or NONE. */
+        /** The largest closed part with none of some, all of others; of several the greatest number; or NONE. */
         int largest(int mind, int gone, int kept) {
             int pool = mind & ~gone;
             if ((kept & ~pool) != 0) {
@@ -892,12 +898,14 @@ public final class ForgetBread {
             int free = pool & ~kept;
             int best = NONE;
             int most = NONE;
-            for (int part = free; part >= 0 && most < Integer.bitCount(pool); part = nextPart(part, free)) {
+            int part = free;
+            for (int left = 1 << Integer.bitCount(free); left > 0 && most < Integer.bitCount(pool); left--) {
                 int size = Integer.bitCount(part | kept);
                 if (size > most && close(part | kept) == (part | kept)) {
                     most = size;
                     best = part | kept;
                 }
+                part = (part - 1) & free;
             }
             return best;
         }
@@ -982,10 +990,12 @@ public final class ForgetBread {
 
         int mostWorth(int mind) {
             int most = worthOf(mind);
-            for (int part = mind; part >= 0; part = nextPart(part, mind)) {
+            int part = mind;
+            for (int left = 1 << Integer.bitCount(mind); left > 0; left--) {
                 if (isClosed(part)) {
                     most = Math.max(most, worthOf(part));
                 }
+                part = (part - 1) & mind;
             }
             return most;
         }
@@ -995,11 +1005,12 @@ public final class ForgetBread {
             return (can & ~done) == 0 && (cannot & done) == 0;
         }
 
-        /** The fewest of a pool by which, learnt, a mind has all that it needs and nothing that it must not. */
+        /** The fewest of a pool by which, learnt, a mind has all that it needs and none of what it must not. */
         int fewest(int pool, int mind, int need, int not) {
             int best = NONE;
             int least = MOST_FACTS + 1;
-            for (int part = pool; part >= 0; part = nextPart(part, pool)) {
+            int part = pool;
+            for (int left = 1 << Integer.bitCount(pool); left > 0; left--) {
                 int many = Integer.bitCount(part);
                 if (many <= least) {
                     int then = close(mind | part);
@@ -1008,6 +1019,7 @@ public final class ForgetBread {
                         least = many;
                     }
                 }
+                part = (part - 1) & pool;
             }
             return best;
         }
@@ -1049,9 +1061,10 @@ public final class ForgetBread {
         }
     }
 
-    /** A state: minds, halves, loaves and the hour; and what the hours since it was made or copied have brought. */
+    /** A state: minds, halves, loaves, the hour; and what the hours since it was copied have brought. */
     private static final class Folk {
         Town town = null;
+        int people;
         int hour;
         final int[] minds = new int[MOST_PEOPLE];
         final int[] halves = new int[MOST_PEOPLE];
@@ -1066,6 +1079,7 @@ public final class ForgetBread {
 
         void begin(Town its) {
             town = its;
+            people = Math.min(its.people.size, MOST_PEOPLE);
             hour = 0;
             for (int person = 0; person < MOST_PEOPLE; person++) {
                 minds[person] = firstMind(person);
@@ -1086,6 +1100,7 @@ public final class ForgetBread {
 
         void copyFrom(Folk other) {
             town = other.town;
+            people = other.people;
             hour = other.hour;
             System.arraycopy(other.minds, 0, minds, 0, MOST_PEOPLE);
             System.arraycopy(other.halves, 0, halves, 0, MOST_PEOPLE);
@@ -1094,11 +1109,11 @@ public final class ForgetBread {
         }
 
         private int firstMind(int person) {
-            return town != null && town.hasPerson(person) ? town.close(town.people.cell(person, 1)) : 0;
+            return isThere(person) ? town.close(town.people.cell(person, 1)) : 0;
         }
 
         private boolean isThere(int person) {
-            return town != null && person >= 0 && person < town.people.size && person < MOST_PEOPLE;
+            return town != null && person >= 0 && person < people && person < MOST_PEOPLE;
         }
 
         int mind(int person) {
@@ -1133,7 +1148,7 @@ public final class ForgetBread {
 
         int knownToAll() {
             int set = town == null ? 0 : town.all();
-            for (int person = 0; isThere(person); person++) {
+            for (int person = 0; person < people; person++) {
                 set &= mind(person);
             }
             return set;
@@ -1145,7 +1160,7 @@ public final class ForgetBread {
 
         int knownToOthers(int one) {
             int set = 0;
-            for (int person = 0; isThere(person); person++) {
+            for (int person = 0; person < people; person++) {
                 set |= person == one ? 0 : mind(person);
             }
             return set;
@@ -1153,7 +1168,7 @@ public final class ForgetBread {
 
         int lost() {
             int first = 0;
-            for (int person = 0; isThere(person); person++) {
+            for (int person = 0; person < people; person++) {
                 first |= firstMind(person);
             }
             return first & ~knownToAny();
@@ -1162,7 +1177,7 @@ public final class ForgetBread {
         int secrets() {
             int once = 0;
             int more = 0;
-            for (int person = 0; isThere(person); person++) {
+            for (int person = 0; person < people; person++) {
                 more |= once & mind(person);
                 once |= mind(person);
             }
@@ -1171,7 +1186,7 @@ public final class ForgetBread {
 
         int whoHas(int fact) {
             int who = 0;
-            for (int person = 0; isThere(person); person++) {
+            for (int person = 0; person < people; person++) {
                 who |= has(person, fact) ? 1 << person : 0;
             }
             return who;
@@ -1181,7 +1196,7 @@ public final class ForgetBread {
         int leastWhoHave(int facts, int one) {
             int who = 0;
             int left = facts;
-            for (int person = 0; isThere(person); person++) {
+            for (int person = 0; person < people; person++) {
                 if (person != one && (left & mind(person)) != 0) {
                     who |= 1 << person;
                     left &= ~mind(person);
@@ -1259,14 +1274,14 @@ public final class ForgetBread {
                 return;
             }
             hour++;
-            for (int person = 0; isThere(person); person++) {
+            for (int person = 0; person < people; person++) {
                 int out = town.people.cell(person, 2) & ~(person == stayer ? stays : 0);
                 if (isIn(out, hour)) {
                     seeSigns(person);
                 }
             }
             holdMeetings();
-            for (int person = 0; hour == LAST_HOUR && isThere(person); person++) {
+            for (int person = 0; hour == LAST_HOUR && person < people; person++) {
                 learn(person, halves[person]);
                 halves[person] = 0;
             }
@@ -1314,7 +1329,7 @@ public final class ForgetBread {
         void passSeeded(int seed) {
             int drawn = seed;
             for (int left = LAST_HOUR - hour; left > 0; left--) {
-                for (int person = 0; isThere(person); person++) {
+                for (int person = 0; person < people; person++) {
                     drawn = draw(drawn);
                     boolean hungry = below(drawn, 100) < town.people.cell(person, 0);
                     if (hungry && mind(person) != 0) {
@@ -1352,7 +1367,7 @@ public final class ForgetBread {
     /** The minds that one comes to by loaves, each by least: by how many loaves, then by rows of facts. */
     private static final class Search {
         private final int[] queue = new int[SETS];
-        /** Of each mind the one ahead of it, the loaf that led to it, and how many led to it (NONE: not found). */
+        /** Of each mind the one ahead of it, the loaf between, and how many led to it (NONE: not found). */
         private final int[] from = new int[SETS];
         private final int[] by = new int[SETS];
         private final int[] loaves = new int[SETS];
@@ -1595,7 +1610,7 @@ public final class ForgetBread {
             acts.size = 0;
             nextToken();
             boolean goesOn = true;
-            while (goesOn && token != THE_END) {
+            for (int left = length; left > 0 && goesOn && token != THE_END; left--) {
                 goesOn = readLine(sort);
             }
             if (!goesOn) {
@@ -1618,7 +1633,7 @@ public final class ForgetBread {
             openRow(word);
             nextToken();
             int many = 0;
-            while (token == NUMBER && word.signAt(many) != ' ') {
+            while (many < length && token == NUMBER && word.signAt(many) != ' ') {
                 testNumber(word, many);
                 keepNumber(word, many);
                 many++;
