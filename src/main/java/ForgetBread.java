@@ -1064,7 +1064,8 @@ public final class ForgetBread {
     /** A state: minds, halves, loaves, the hour; and what the hours since it was copied have brought. */
     private static final class Folk {
         Town town = null;
-        int people;
+        /** How many people there are. */
+        int many;
         int hour;
         final int[] minds = new int[MOST_PEOPLE];
         final int[] halves = new int[MOST_PEOPLE];
@@ -1079,7 +1080,7 @@ public final class ForgetBread {
 
         void begin(Town its) {
             town = its;
-            people = Math.min(its.people.size, MOST_PEOPLE);
+            many = Math.min(its.people.size, MOST_PEOPLE);
             hour = 0;
             for (int person = 0; person < MOST_PEOPLE; person++) {
                 minds[person] = firstMind(person);
@@ -1100,7 +1101,7 @@ public final class ForgetBread {
 
         void copyFrom(Folk other) {
             town = other.town;
-            people = other.people;
+            many = other.many;
             hour = other.hour;
             System.arraycopy(other.minds, 0, minds, 0, MOST_PEOPLE);
             System.arraycopy(other.halves, 0, halves, 0, MOST_PEOPLE);
@@ -1113,7 +1114,7 @@ public final class ForgetBread {
         }
 
         private boolean isThere(int person) {
-            return town != null && person >= 0 && person < people && person < MOST_PEOPLE;
+            return town != null && person >= 0 && person < many && person < MOST_PEOPLE;
         }
 
         int mind(int person) {
@@ -1148,7 +1149,7 @@ public final class ForgetBread {
 
         int knownToAll() {
             int set = town == null ? 0 : town.all();
-            for (int person = 0; person < people; person++) {
+            for (int person = 0; person < many; person++) {
                 set &= mind(person);
             }
             return set;
@@ -1160,7 +1161,7 @@ public final class ForgetBread {
 
         int knownToOthers(int one) {
             int set = 0;
-            for (int person = 0; person < people; person++) {
+            for (int person = 0; person < many; person++) {
                 set |= person == one ? 0 : mind(person);
             }
             return set;
@@ -1168,7 +1169,7 @@ public final class ForgetBread {
 
         int lost() {
             int first = 0;
-            for (int person = 0; person < people; person++) {
+            for (int person = 0; person < many; person++) {
                 first |= firstMind(person);
             }
             return first & ~knownToAny();
@@ -1177,7 +1178,7 @@ public final class ForgetBread {
         int secrets() {
             int once = 0;
             int more = 0;
-            for (int person = 0; person < people; person++) {
+            for (int person = 0; person < many; person++) {
                 more |= once & mind(person);
                 once |= mind(person);
             }
@@ -1186,7 +1187,7 @@ public final class ForgetBread {
 
         int whoHas(int fact) {
             int who = 0;
-            for (int person = 0; person < people; person++) {
+            for (int person = 0; person < many; person++) {
                 who |= has(person, fact) ? 1 << person : 0;
             }
             return who;
@@ -1196,7 +1197,7 @@ public final class ForgetBread {
         int leastWhoHave(int facts, int one) {
             int who = 0;
             int left = facts;
-            for (int person = 0; person < people; person++) {
+            for (int person = 0; person < many; person++) {
                 if (person != one && (left & mind(person)) != 0) {
                     who |= 1 << person;
                     left &= ~mind(person);
@@ -1274,14 +1275,14 @@ public final class ForgetBread {
                 return;
             }
             hour++;
-            for (int person = 0; person < people; person++) {
+            for (int person = 0; person < many; person++) {
                 int out = town.people.cell(person, 2) & ~(person == stayer ? stays : 0);
                 if (isIn(out, hour)) {
                     seeSigns(person);
                 }
             }
             holdMeetings();
-            for (int person = 0; hour == LAST_HOUR && person < people; person++) {
+            for (int person = 0; hour == LAST_HOUR && person < many; person++) {
                 learn(person, halves[person]);
                 halves[person] = 0;
             }
@@ -1329,7 +1330,7 @@ public final class ForgetBread {
         void passSeeded(int seed) {
             int drawn = seed;
             for (int left = LAST_HOUR - hour; left > 0; left--) {
-                for (int person = 0; person < people; person++) {
+                for (int person = 0; person < many; person++) {
                     drawn = draw(drawn);
                     boolean hungry = below(drawn, 100) < town.people.cell(person, 0);
                     if (hungry && mind(person) != 0) {

@@ -46,6 +46,16 @@ public final class KeepAwayTest {
         ForgetBread both = Kit.of("facts 4;rule 3 0;rule 3 1;one 0;one 0;one 0;knows 0 3;knows 1 0;knows 2 1;"
                 + "meet 1 2 1 0;meet 2 1 1 1;meet 1 0 2 0;", "");
         pact(both, 0, 0, 3, Kit.set(1));
+        // they eat by least: 1 stays, and with 0 it gives 2 again
+        String least = "facts 3;rule 2 0 1;one 0;one 0;knows 0 0 1;knows 1 0 1;";
+        pact(Kit.of(least + "out 0 5;sign 5 0;", ""), 0, 0, 2, -1);
+        pact(Kit.of(least + "out 0 5;sign 5 1;", ""), 0, 0, 2, 0);
+        pact(Kit.of(least + "out 1 3;sign 3 0;meet 1 0 5 2;", ""), 0, 0, 2, -1);
+        pact(Kit.of(least + "out 1 3;sign 3 1;meet 1 0 5 2;", ""), 0, 0, 2, Kit.set(1));
+        // the fewest, though the two others would be the least number: three alone tells of 1
+        ForgetBread fewest = Kit.of("facts 5;rule 3 0 1;rule 3 0 2;rule 3 1 4;one 0;one 0;one 0;one 0;knows 0 3;"
+                + "knows 1 0 2;knows 2 0 2;knows 3 1 4;meet 1 0 1 0;meet 2 0 2 0;meet 3 0 3 1;", "");
+        pact(fewest, 0, 0, 3, Kit.set(3));
     }
 
     private static void stay(ForgetBread x, int n, int p, int fact, int due) {
@@ -78,6 +88,11 @@ public final class KeepAwayTest {
         // of several the least number
         ForgetBread either = Kit.of("facts 3;rule 2 0 1;one 0;out 0 3 6;sign 3 0;sign 6 1;", "");
         stay(either, 0, 0, 2, Kit.set(3));
+        // the fewest goes ahead of the least number
+        ForgetBread fewest = Kit.of("facts 3;rule 2 0 1;one 0;out 0 2 3 7;sign 2 0;sign 3 0;sign 7 1;", "hour;hour;");
+        stay(fewest, 0, 0, 2, Kit.set(7));
+        stay(fewest, 1, 0, 2, Kit.set(7));
+        stay(fewest, 2, 0, 2, Kit.set(7));
         // only his own hours, though another one tells him what he has seen
         ForgetBread other = Kit.of("facts 2;one 0;one 0;out 0 3;out 1 3;sign 3 0;meet 0 1 5 0;meet 1 0 6 0;", "");
         stay(other, 0, 0, 0, -1);
@@ -108,6 +123,11 @@ public final class KeepAwayTest {
         ForgetBread chain = Kit.of("facts 1;one 0;one 0;one 0;knows 0 0;meet 1 2 5 0;meet 0 1 3 0;meet 0 1 7 0;", "hour;");
         shut(chain, 0, 2, 0, 1);
         shut(chain, 0, 1, 0, Kit.set(1, 2));
+        // the fewest goes ahead of the least number
+        ForgetBread fewest = Kit.of("facts 1;one 0;one 0;one 0;knows 1 0;meet 1 2 1 0;meet 1 2 2 0;meet 2 0 5 0;",
+                "hour;");
+        shut(fewest, 0, 0, 0, Kit.set(2));
+        shut(fewest, 1, 0, 0, Kit.set(2));
         // who sees it is not kept from it
         ForgetBread seen = Kit.of("facts 1;one 0;one 0;knows 1 0;out 0 5;sign 5 0;meet 1 0 3 0;", "half 1 0;");
         shut(seen, 0, 0, 0, -1);

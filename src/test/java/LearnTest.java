@@ -164,6 +164,10 @@ public final class LearnTest {
         }
         ForgetBread plain = Kit.of("facts 3;one 0;knows 0 0 1 2;");
         root(plain, 0, 7, 7, 0);
+        // the fewest goes ahead of the least number
+        ForgetBread few = Kit.of("facts 4;rule 0 3;rule 1 3;rule 2 3;rule 3 0 1 2;one 0;one 0;knows 0 3;");
+        root(few, 0, Kit.set(3), 0, 0);
+        teach(few, 0, 1, Kit.set(3));
     }
 
     private static void teach(ForgetBread x, int p, int other, int due) {

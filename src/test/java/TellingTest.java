@@ -15,6 +15,7 @@ public final class TellingTest {
         faultThree();
         faultFour();
         faultsOfDays();
+        oneTextAfterAnother();
         townsTold();
         actsTold();
         images();
@@ -107,6 +108,12 @@ public final class TellingTest {
         for (int at : new int[] {-2, 3, 2, Integer.MIN_VALUE, Integer.MAX_VALUE}) {
             Kit.due("at " + at, Kit.text(x, 0, at, "facts 3;"), -2);
             Kit.due("at " + at, Kit.text(x, 1, at, "hour;"), -2);
+            for (int sort = 0; sort < 2; sort++) {
+                Kit.due("at " + at, Kit.text(x, sort, at, "#"), -2);
+                Kit.due("no text is read", x.fault(0), 0);
+                Kit.due("no place", x.fault(1), -1);
+                Kit.due("the tape is empty", x.end(1), -1);
+            }
         }
         for (int day = 0; day < 3; day++) {
             Kit.due("day", Kit.text(x, 1, -1, "hour;".repeat(day)), day);
@@ -132,6 +139,11 @@ public final class TellingTest {
         Kit.fault(0, "facts 6 \n", 1, 9);
         Kit.fault(0, "fact 6;", 1, 0);
         Kit.fault(0, "  factss 6;", 1, 2);
+        Kit.fault(0, "factsz 6;", 1, 0);
+        Kit.fault(0, "facts{6;", 1, 5);
+        Kit.fault(0, "facts`6;", 1, 5);
+        Kit.fault(0, "facts 6:", 1, 7);
+        Kit.fault(0, "facts 6/;", 1, 7);
         Kit.fault(0, ";", 1, 0);
         Kit.fault(0, "6;", 1, 0);
         Kit.fault(0, "facts 6;;", 1, 8);
@@ -266,6 +278,12 @@ public final class TellingTest {
         Kit.fault(1, "ask 2 3 4 5;", 1, 10);
         Kit.fault(1, "whole 0;", 1, 7);
         Kit.fault(1, "whole 0 1 2;", 1, 10);
+        for (String word : new String[] {"whole", "least", "late", "half", "learn"}) {
+            Kit.fault(1, word + " 0;", 1, word.length() + 2);
+            Kit.fault(1, word + " 0 1 2;", 1, word.length() + 5);
+            Kit.fault(1, word + " 5 1;", 2, word.length() + 1);
+            Kit.fault(1, word + " 4 10;", 2, word.length() + 3);
+        }
         Kit.fault(1, "hour 1;", 1, 5);
         Kit.fault(1, "hour", 1, 4);
         Kit.fault(1, "facts 6;", 1, 0);
@@ -274,6 +292,35 @@ public final class TellingTest {
         Kit.fault(1, "hour;".repeat(31), 3, 150);
         Kit.fault(1, "hour;".repeat(30) + "whole 9 9;", 3, 150);
         Kit.fault(1, "whole 9 9;" + "hour;".repeat(30), 2, 6);
+    }
+
+    /** What one text told, or one with a fault, is not in the next one. */
+    private static void oneTextAfterAnother() {
+        String full = "facts 10;price 77;rule 9 8 7 6;one 9;one 8;knows 0 9;out 0 9;sign 9 9;meet 0 1 9 9;"
+                + "skill 9 9;hurt 9 9;";
+        for (String first : new String[] {full, full + "x", full + "sign 0 0;", full + "facts 9;"}) {
+            ForgetBread x = new ForgetBread();
+            Kit.due("first", Kit.text(x, 0, -1, first), first.equals(full) ? 0 : -1);
+            int at = x.count(0);
+            Kit.due("second", Kit.text(x, 0, -1, "sign 1 5;"), at);
+            Kit.due("fault", x.fault(0), 0);
+            int[] due = {6, 0, 0, 1, 0, 0, 0, 4, 63};
+            for (int what = 0; what < due.length; what++) {
+                Kit.due("town " + what, x.town(at, what), due[what]);
+            }
+            Kit.due("reach", x.reach(at, 63), 63);
+            Kit.due("knows 0", Kit.text(x, 0, at, "knows 0 1;"), -1);
+            Kit.due("fault", x.fault(0), 2);
+            Kit.due("one", Kit.text(x, 0, at, "one 5;"), at);
+            Kit.due("he knows nothing", x.person(at, 0, 1), 0);
+            Kit.due("he is never out", x.person(at, 0, 2), 0);
+        }
+        ForgetBread day = new ForgetBread();
+        Kit.due("a fault", Kit.text(day, 1, -1, "hour;".repeat(30) + "x"), -1);
+        Kit.due("a day", Kit.text(day, 1, -1, "hour;".repeat(30)), 0);
+        Kit.due("one act", Kit.text(day, 1, 0, "learn 1 2;"), 0);
+        Kit.due("one act", day.act(0, -1, 0), 1);
+        Kit.due("no third number", day.act(0, 0, 3), -1);
     }
 
     private static void townsTold() {
