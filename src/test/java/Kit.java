@@ -4,8 +4,19 @@ import java.nio.charset.StandardCharsets;
 final class Kit {
     private static int wrong = 0;
     private static int asked = 0;
+    private static int sentences = 0;
+    private static String sentence = "";
 
     private Kit() {
+    }
+
+    /**
+     * Opens the test of one sentence of the document, which stands under "Promise n" or "Term n" (SentencesTest looks
+     * whether it does): the answers up to the next sentence are its own.
+     */
+    static void sentence(String where, String words) {
+        sentence = where + " \"" + words + "\": ";
+        sentences++;
     }
 
     static void due(String call, long got, long want) {
@@ -13,7 +24,7 @@ final class Kit {
         if (got != want) {
             wrong++;
             if (wrong <= 50) {
-                System.out.println(call + " answered " + got + ", due is " + want);
+                System.out.println(sentence + call + " answered " + got + ", due is " + want);
             }
         }
     }
@@ -28,7 +39,8 @@ final class Kit {
 
     /** To be called last by each main. */
     static void close() {
-        System.out.println(asked + " answers, " + wrong + " wrong");
+        String told = sentences == 0 ? "" : sentences + " sentences, ";
+        System.out.println(told + asked + " answers, " + wrong + " wrong");
         if (wrong != 0 || asked == 0) {
             System.exit(1);
         }

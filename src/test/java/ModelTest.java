@@ -1,8 +1,16 @@
+import java.util.ArrayList;
+import java.util.List;
+
 /** Drawn towns and days: every answer is compared with that of the slow model. */
 public final class ModelTest {
+    /** An object is used for 512 calls at most: of these some feed the texts, and one round asks less than 20. */
+    private static final int MOST_CALLS = 490;
+
     private final Draw draw;
-    private final ForgetBread x = new ForgetBread();
     private final Model model = new Model();
+    private final List<String> texts = new ArrayList<>();
+    private ForgetBread x = new ForgetBread();
+    private int calls;
     private int facts;
     private int people;
 
@@ -27,20 +35,33 @@ public final class ModelTest {
         model.towns.add(read.town);
         facts = read.town.facts;
         people = read.town.people.size();
-        StringBuilder told = new StringBuilder(town);
+        texts.add(town);
         for (int day = 0; day < 3; day++) {
             String text = day(day);
-            told.append("\n").append(text);
+            texts.add(text);
             ModelText acts = new ModelText(1, text);
             Kit.due("seed " + seed + " day fault", acts.fault, 0);
             Kit.due("seed " + seed + " day", Kit.text(x, 1, -1, text), day);
             model.days.add(acts.acts);
         }
+        calls = MOST_CALLS;
         for (int i = 0; i < 380; i++) {
+            if (calls >= MOST_CALLS) {
+                tellAnew();
+            }
             ask(i);
         }
         if (Kit.failed()) {
-            System.out.println("seed " + seed + ":\n" + told);
+            System.out.println("seed " + seed + ":\n" + String.join("\n", texts));
+        }
+    }
+
+    private void tellAnew() {
+        x = new ForgetBread();
+        calls = 0;
+        for (int i = 0; i < texts.size(); i++) {
+            Kit.due("told anew", Kit.text(x, i == 0 ? 0 : 1, -1, texts.get(i)), i == 0 ? 0 : i - 1);
+            calls += 3 + (texts.get(i).length() + 19) / 20;
         }
     }
 
@@ -71,6 +92,7 @@ public final class ModelTest {
     private String at;
 
     private void due(String call, int got, int want) {
+        calls++;
         Kit.due(call + at, got, want);
     }
 

@@ -1,10 +1,11 @@
 import com.sun.management.ThreadMXBean;
 import java.lang.management.ManagementFactory;
 
-/** The room: what an object takes when it is made, and that its calls, the dearest too, take nothing more. */
+/** The room: what an object takes when it is made, and what the 512 calls of a run take, the dearest too. */
 public final class RoomTest {
-    /** A seventh of the room of one run, at 4 bytes each. */
-    private static final long MOST_BYTES = 4L * 1_000_000;
+    /** 7.3 million fields and elements, at 4 bytes each. */
+    private static final long MOST_BYTES = 4L * 7_300_000;
+    private static final int CALLS = 512;
 
     private RoomTest() {
     }
@@ -12,23 +13,34 @@ public final class RoomTest {
     public static void main(String[] args) {
         ThreadMXBean counter = (ThreadMXBean) ManagementFactory.getThreadMXBean();
         long thread = Thread.currentThread().getId();
-        new ForgetBread();
-        counter.getThreadAllocatedBytes(thread);
-        long start = counter.getThreadAllocatedBytes(thread);
-        ForgetBread x = new ForgetBread();
-        long made = counter.getThreadAllocatedBytes(thread) - start;
-        Kit.due("an object takes " + made, made < MOST_BYTES, true);
-        ask(x);
-        tell(x);
-        ask(x);
+        ForgetBread first = new ForgetBread();
+        ask(first, tell(first));
+        for (int kind = 0; kind < 13; kind++) {
+            int calls = 0;
+            ForgetBread x = new ForgetBread();
+            int told = tell(x);
+            long start = counter.getThreadAllocatedBytes(thread);
+            int sum = 0;
+            for (calls = told; calls < CALLS; calls++) {
+                sum += askOne(x, kind, calls);
+            }
+            long taken = counter.getThreadAllocatedBytes(thread) - start;
+            Kit.due("calls of kind " + kind + " take " + taken + " (" + sum + ")", taken < MOST_BYTES, true);
+        }
         long before = counter.getThreadAllocatedBytes(thread);
-        int sum = ask(x);
+        ForgetBread x = new ForgetBread();
+        long made = counter.getThreadAllocatedBytes(thread) - before;
+        Kit.due("an object takes " + made, made < MOST_BYTES / 7, true);
+        before = counter.getThreadAllocatedBytes(thread);
+        int told = tell(x);
+        int sum = ask(x, told);
         long taken = counter.getThreadAllocatedBytes(thread) - before;
-        Kit.due("calls take " + taken + " (" + sum + ")", taken < 4096, true);
+        Kit.due("all kinds take " + taken + " (" + sum + ")", taken + made < MOST_BYTES, true);
         Kit.close();
     }
 
-    private static void tell(ForgetBread x) {
+    /** How many calls it took. */
+    private static int tell(ForgetBread x) {
         String facts = "facts 10;rule 0 1 2 3;rule 4 5 6;rule 9 8 7;";
         StringBuilder town = new StringBuilder(facts + "one 90;one 80;one 70;one 60;one 50;");
         for (int p = 0; p < 5; p++) {
@@ -39,23 +51,37 @@ public final class RoomTest {
             town.append("meet ").append(1 + meet % 4).append(" 0 ").append(1 + meet % 9).append(" 4;");
         }
         town.append("skill 9 1 2;hurt 9 3 4;hurt 9 5 6;");
+        String day = "least 0 0;half 0 9;whole 1 4;late 2 4;hour;hour;least 3 9;";
         Kit.due("town", Kit.text(x, 0, -1, town.toString()), 0);
-        Kit.due("day", Kit.text(x, 1, -1, "least 0 0;half 0 9;whole 1 4;late 2 4;hour;hour;least 3 9;"), 0);
+        Kit.due("day", Kit.text(x, 1, -1, day), 0);
+        return 6 + (town.length() + 19) / 20 + (day.length() + 19) / 20;
     }
 
-    private static int ask(ForgetBread x) {
+    private static int ask(ForgetBread x, int told) {
         int sum = 0;
-        for (int n = 0; n < 8; n++) {
-            for (int fact = 0; fact < 10; fact++) {
-                sum += x.row(0, 0, n, 0, 1023 & ~(1 << fact), 0, 0) + x.safe(0, 0, n, 0, fact, 0);
-                sum += x.stay(0, 0, n, 0, fact) + x.shut(0, 0, n, 0, fact) + x.pact(0, 0, n, 0, fact);
-                sum += x.order(0, 0, n, 0, 31 << fact / 2, fact % 3, 0) + x.ways(0, 0, n, 0, fact);
-                sum += x.note(0, 0, n, 0, fact, 9) + x.ask(0, 0, n, 0, fact, true);
-            }
-            sum += x.best(0, 0, n, 0, 3, 1) + x.gap(0, 0, n, 0, 3) + x.days(0, 0, n, n, 0);
-            sum += x.guess(0, 0, n, 0, 0, 1, 1) + x.roots(0, 0, n, 0, 0) + x.teach(0, 0, n, 0, 1);
-            sum += (x.image(n % 3) ? 1 : 0) + (x.back(n % 3) ? 1 : 0);
+        for (int calls = told; calls < CALLS; calls++) {
+            sum += askOne(x, calls % 13, calls / 13);
         }
         return sum;
+    }
+
+    private static int askOne(ForgetBread x, int kind, int number) {
+        int n = number % 8;
+        int fact = number / 8 % 10;
+        switch (kind) {
+            case 0: return x.row(0, 0, n, 0, 1023 & ~(1 << fact), 0, 0);
+            case 1: return x.safe(0, 0, n, 0, fact, 0);
+            case 2: return x.stay(0, 0, n, 0, fact);
+            case 3: return x.shut(0, 0, n, 0, fact);
+            case 4: return x.pact(0, 0, n, 0, fact);
+            case 5: return x.order(0, 0, n, 0, 31 << fact / 2, fact % 3, 0);
+            case 6: return x.ways(0, 0, n, 0, fact);
+            case 7: return x.note(0, 0, n, 0, fact, 9) + fact;
+            case 8: return x.best(0, 0, n, 0, 3, 1);
+            case 9: return x.gap(0, 0, n, 0, 3);
+            case 10: return x.guess(0, 0, n, 0, 0, 1, 1);
+            case 11: return x.roots(0, 0, n, 0, 0);
+            default: return (n % 2 == 0 ? x.image(n % 3) : x.back(n % 3)) ? 1 : 0;
+        }
     }
 }
