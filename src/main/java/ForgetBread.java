@@ -757,7 +757,7 @@ public final class ForgetBread {
 
         Rows(int most, int width) {
             this.width = width;
-            cells = new int[most * width];
+            cells = new int[Math.max(0, most * width)];
         }
 
         boolean isFull() {

@@ -440,6 +440,12 @@ public final class ForgetEdgesTest {
             Kit.due("nothing is better", all.gap(0, -1, 0, 0, m), 0);
             Kit.due("nothing stays", empty.gap(0, -1, 0, 0, m), m == 0 ? 99 : 0);
         }
+        ForgetBread gaps = Kit.of("facts 10;rule 9 4 6;one 0;knows 0 0 2 4 6 9;hurt 20 0 2;hurt 9 9;skill 5 6;skill 4 0;hurt 7 2 4;");
+        Kit.due("worth", gaps.worth(0, -1, 0, 0, 0), -27);
+        int[] its = {36, 9, 0, 0};
+        for (int m = 0; m < 4; m++) {
+            Kit.due("gap of " + m, gaps.gap(0, -1, 0, 0, m), its[m]);
+        }
         ForgetBread none = Kit.of("one 0;skill 9 0;hurt 9 1;");
         Kit.due("no facts", none.gap(0, -1, 0, 0, 0), 0);
     }
@@ -522,6 +528,15 @@ public final class ForgetEdgesTest {
         guess(chain, 0, 2, 1, 1, 1);
         guess(chain, 2, 1, -1, -1, -1);
         guess(chain, 1, 2, 1, 1, 1);
+        // of a mind with gaps all parts are looked at, too
+        ForgetBread gaps = Kit.of("facts 10;rule 9 4 6;one 0;knows 0 0 2 4 6 9;skill 1 0 4;skill 1 2 6;skill 1 9;skill 1 5;");
+        guess(gaps, 0, 1, 1, 2, 0);
+        guess(gaps, 0, 3, 2, 4, 0);
+        guess(gaps, 4, 3, 2, 4, 0);
+        guess(gaps, 3, 4, -1, -1, -1);
+        guess(gaps, 1, 6, 2, 1, Kit.set(6, 9));
+        guess(gaps, 0, 7, 3, 3, 512);
+        guess(gaps, 8, 0, -1, -1, -1);
         ForgetBread none = Kit.of("one 0;skill 1 0;");
         guess(none, 0, 1, 0, 1, 0);
         guess(none, 0, 0, 0, 1, 0);

@@ -30,7 +30,6 @@ public final class RoomTest {
         long before = counter.getThreadAllocatedBytes(thread);
         ForgetBread x = new ForgetBread();
         long made = counter.getThreadAllocatedBytes(thread) - before;
-        Kit.due("an object takes " + made, made < MOST_BYTES / 7, true);
         before = counter.getThreadAllocatedBytes(thread);
         int told = tell(x);
         int sum = ask(x, told);

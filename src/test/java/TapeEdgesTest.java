@@ -18,6 +18,7 @@ public final class TapeEdgesTest {
         textIsTaken();
         textInPlace();
         textFault();
+        textAfterFault();
         textNone();
         textNoSort();
         faults();
@@ -32,6 +33,7 @@ public final class TapeEdgesTest {
         backFalse();
         imagesApart();
         askingLeavesAll();
+        askingLeavesNoState();
         callsOfOneObject();
         Kit.close();
     }
@@ -301,6 +303,37 @@ public final class TapeEdgesTest {
         }
         Kit.due("the place is free still", Kit.text(x, 1, -1, ""), 1);
         Kit.due("the place is free still", Kit.text(x, 0, -1, ""), 1);
+    }
+
+    /** What a text has told, taken or not, is in no later text. */
+    private static void textAfterFault() {
+        Kit.sentence("Promise 4", "The tape is taken (and is empty then)");
+        String full = "facts 10;price 77;rule 9 8 7 6;one 9;one 8;knows 0 9;out 0 9;sign 9 9;meet 0 1 9 9;skill 9 9;hurt 9 9;";
+        int[] plain = {6, 0, 0, 0, 0, 0, 0, 4, 63};
+        for (String first : new String[] {full, full + "x", full + "facts 0;", full + "facts 9;", full + "rule 0 1 2 3 4;"}) {
+            ForgetBread x = new ForgetBread();
+            Kit.due("the first text", Kit.text(x, 0, -1, first), first.equals(full) ? 0 : -1);
+            int at = x.count(0);
+            Kit.due("an empty text", x.text(0, -1), at);
+            for (int what = 0; what < plain.length; what++) {
+                Kit.due("town " + what + " of the empty text", x.town(at, what), plain[what]);
+            }
+            Kit.due("people alone", Kit.text(x, 0, at, "one 1;one 2;"), at);
+            for (int p = 0; p < 2; p++) {
+                Kit.due("he knows nothing", x.person(at, p, 1), 0);
+                Kit.due("he is never out", x.person(at, p, 2), 0);
+                Kit.due("nothing comes", x.evening(at, -1, 0, p), 0);
+            }
+            Kit.due("what was told ahead is not told", Kit.text(x, 0, at, "knows 0 1;"), -1);
+            Kit.due("its fault", x.fault(0), 2);
+            // of the first text some fact is 9, which the second has not
+            Kit.due("no fault 4 is left", Kit.text(x, 0, at, "facts 1;"), at);
+        }
+        ForgetBread day = Kit.of("", "ask 0 1 9;".repeat(30));
+        Kit.due("a fault behind 30 acts", Kit.text(day, 1, 0, "hour;".repeat(30) + "hour"), -1);
+        Kit.due("30 acts", Kit.text(day, 1, -1, "hour;".repeat(30)), 1);
+        Kit.due("no act", day.text(1, 0), 0);
+        Kit.due("none is left", day.act(0, -1, 0), 0);
     }
 
     private static void textNone() {
@@ -621,6 +654,42 @@ public final class TapeEdgesTest {
         Kit.due("the tape", x.end(9), -1);
         Kit.due("the text", x.text(0, 0), 0);
         Kit.due("its price", x.town(0, 7), 1);
+    }
+
+    /** A state is made anew for each call: what is tried in one of them is not there in the next. */
+    private static void askingLeavesNoState() {
+        Kit.sentence("Not promised", "Nothing is promised beyond the answers and state changes described above");
+        ForgetBread x = Kit.of("facts 4;one 90;one 90;one 0;knows 1 0;knows 0 2;knows 1 2;out 0 4;sign 4 1;meet 1 0 3 0;meet 0 2 5 0;"
+                + "meet 1 0 9 2;", "hour;least 0 2;half 1 2;");
+        for (int round = 0; round < 12; round++) {
+            switch (round) {
+                case 1: Kit.due("shut", x.shut(0, -1, 0, 0, 0), 1); break;
+                case 2: Kit.due("stay", x.stay(0, -1, 0, 0, 1), 16); break;
+                case 3: Kit.due("pact", x.pact(0, -1, 0, 0, 2), 2); break;
+                case 4: Kit.due("safe", x.safe(0, -1, 0, 1, 0, 0), 1); break;
+                case 5: Kit.due("shut", x.shut(0, -1, 0, 2, 0), 1); break;
+                case 6: Kit.due("days", x.days(0, 0, 1, 99, 3), -2); break;
+                case 7: Kit.due("state", x.state(0, 0, 3, 20), 0); break;
+                case 8: Kit.due("no state", x.state(0, 0, 4, 0), -2); break;
+                case 9: Kit.due("stop", x.stop(0, 0), 3); break;
+                case 10: Kit.due("shut", x.shut(0, 0, 3, 0, 0), 1); break;
+                case 11: Kit.due("stay", x.stay(0, 0, 3, 0, 1), 16); break;
+                default: break;
+            }
+            Kit.due("evening behind " + round, x.evening(0, -1, 0, 0), 7);
+            Kit.due("evening of another", x.evening(0, -1, 0, 2), 1);
+            Kit.due("again", x.again(0, -1, 0, 0, 1), 4);
+            Kit.due("news", x.state(0, -1, 0, 6), 3);
+            Kit.due("news of the day", x.state(0, 0, 3, 6), 3);
+            Kit.due("busy", x.whole(0, -1, 0, 1), 56);
+            Kit.due("silent", x.whole(0, -1, 0, 2), 4);
+            Kit.due("mind", x.state(0, -1, 0, 10), 4);
+            Kit.due("half", x.state(0, -1, 0, 21), 0);
+            Kit.due("half of the day", x.state(0, 0, 3, 21), 4);
+            Kit.due("loaves", x.state(0, -1, 0, 1), 0);
+            Kit.due("hour", x.state(0, -1, 0, 0), 0);
+            Kit.due("known", x.known(0, -1, 0, 2, 0), 5);
+        }
     }
 
     private static void ask(ForgetBread x, int t, int d, int n, int p) {

@@ -24,6 +24,7 @@ public final class TextEdgesTest {
         acts();
         blanks();
         letters();
+        words();
         digits();
         closes();
         bytes();
@@ -350,6 +351,30 @@ public final class TextEdgesTest {
         // with the highest bit they are no letters
         Kit.fault(0, "pric\u00e5 1;", 1, 0);
         Kit.fault(0, "price\u00e51;", 1, 5);
+    }
+
+    private static void words() {
+        Kit.sentence("Term 1", "words, rows of letters a .. z;");
+        String[] towns = {"facts 6;", "rule 1 2;", "one 1;", "knows 0 1;", "out 0 1;", "sign 1 1;", "meet 0 1 1 1;", "skill 1 1;",
+            "hurt 1 1;", "price 1;"};
+        String[] days = {"whole 0 0;", "least 0 0;", "late 0 0;", "half 0 0;", "learn 0 0;", "ask 0 1 0;", "hour;"};
+        for (int i = 0; i < towns.length + days.length; i++) {
+            String line = i < towns.length ? towns[i] : days[i - towns.length];
+            String ahead = i < towns.length ? TWO : "";
+            int sort = i < towns.length ? 0 : 1;
+            Kit.fault(sort, ahead + line, 0, -1);
+            for (int at = 0; line.charAt(at) >= 'a'; at++) {
+                for (char sign : new char[] {'a', 'j', 'q', 'z', 'A', (char) (line.charAt(at) - 32), (char) (line.charAt(at) + 128)}) {
+                    if (sign != line.charAt(at)) {
+                        String wrong = ahead + line.substring(0, at) + sign + line.substring(at + 1);
+                        Kit.fault(sort, wrong, 1, ahead.length());
+                    }
+                    String more = ahead + line.substring(0, at) + sign + line.substring(at);
+                    Kit.fault(sort, more, 1, ahead.length());
+                }
+                Kit.fault(sort, ahead + line.substring(0, at) + line.substring(at + 1), 1, ahead.length());
+            }
+        }
     }
 
     private static void digits() {
