@@ -300,6 +300,14 @@ public final class ForgetEdgesTest {
         }
         Edge.none("what", what -> x.row(0, 0, 1, 1, 4, 1, what), -1, -1, -2, -10, 1, 2, 9, 12, 13, 20, 21, 32, 42, 43, 256, 266,
                 65546, Edge.MIN + 9, Edge.MIN + 10, Edge.MAX - 9);
+        // of all the 1024 minds to which loaves lead none is so
+        ForgetBread all = Kit.of("facts 10;" + ALL);
+        for (int set : new int[] {1, 2, 512, 513, 1022, 1023}) {
+            Kit.due("none of all minds", all.row(0, -1, 0, 0, set, set, 0), -1);
+            Kit.due("none of all minds", all.row(0, -1, 0, 0, 1023, set, 10), -1);
+            Kit.due("none of all minds", all.row(0, -1, 0, 0, set, 1023, 19), -1);
+            Kit.due("the last of them", all.row(0, -1, 0, 0, 1023, 0, 19), 9);
+        }
         for (int facts = 1; facts <= 10; facts += 3) {
             ForgetBread y = Kit.of("facts " + facts + ";one 0;" + "knows 0 0;");
             Kit.due("all facts gone", y.row(0, -1, 0, 0, (1 << facts) - 1, 0, 0), 1);
@@ -344,7 +352,12 @@ public final class ForgetEdgesTest {
         ForgetBread told = Kit.of("facts 1;one 0;one 0;knows 0 0;meet 0 1 1 0;meet 1 0 9 0;", "hour;");
         safe(told, -1, 0, 0, 0);
         Kit.due("behind 1 it is too late", told.safe(0, 0, 1, 0, 0, 0), -1);
-        // the most loaves, first by rows
+        // at 9 he sees 8, and 9 would follow with any of eight others: all of these must go
+        ForgetBread eight = Kit.of("facts 10;rule 9 8 0;rule 9 8 1;rule 9 8 2;rule 9 8 3;rule 9 8 4;rule 9 8 5;rule 9 8 6;rule 9 8 7;"
+                + "one 0;knows 0 0 1 2 3 4 5 6 7;out 0 9;sign 9 8;");
+        safe(eight, -1, 0, 9, 0, 1, 2, 3, 4, 5, 6, 7);
+        Kit.due("none for 8", eight.safe(0, -1, 0, 0, 8, 0), -1);
+        // one loaf by least takes all
         ForgetBread nine = Kit.of("facts 10;rule 9 0;rule 9 1;rule 9 2;rule 9 3;rule 9 4;rule 9 5;rule 9 6;rule 9 7;rule 9 8;"
                 + ALL);
         safe(nine, -1, 0, 9, 9);
