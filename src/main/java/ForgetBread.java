@@ -781,6 +781,7 @@ public final class ForgetBread {
         }
 
         int cell(int row, int column) {
+            // As in has(), which would be a call too deep for some of those that ask.
             boolean there = row >= 0 && row < size && column >= 0 && column < width;
             return there ? cells[row * width + column] : NONE;
         }

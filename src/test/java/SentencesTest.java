@@ -3,6 +3,7 @@ import java.nio.file.DirectoryStream;
 import java.nio.file.Files;
 import java.nio.file.Path;
 import java.util.ArrayList;
+import java.util.Arrays;
 import java.util.List;
 import java.util.Map;
 import java.util.TreeMap;
@@ -10,18 +11,15 @@ import java.util.regex.Matcher;
 import java.util.regex.Pattern;
 
 /**
- * Looks whether the sentences that the tests of the edges name stand in the document, under the promise or term that is
- * named, and whether each sentence there that names an edge has a test.
+ * Looks whether the sentences that the tests name stand in the document, under the promise or term that is named, and
+ * whether each word of each promise and of each term stands in a sentence that has a test.
  */
 public final class SentencesTest {
     private static final Path DOCUMENT = Path.of("../shared/DOC.md");
     private static final Pattern NAMED =
             Pattern.compile("Kit\\.sentence\\(\"([^\"]+)\",\\s*((?:\"(?:[^\"\\\\]|\\\\.)*\"\\s*\\+?\\s*)+)\\)");
     private static final Pattern TEXT = Pattern.compile("\"((?:[^\"\\\\]|\\\\.)*)\"");
-    /** The words by which a sentence of a promise names an edge. */
-    private static final Pattern PROMISED = Pattern.compile("NONE|-2|-100000|false|empty|more than|below|No ");
-    /** The same of a term. */
-    private static final Pattern TERM = Pattern.compile(" \\.\\. |at most|1 to |none|fewest|least|the most|greatest|can't");
+    private static final Pattern WORD = Pattern.compile("[A-Za-z0-9]");
 
     private final Map<String, String> document = new TreeMap<>();
     private final Map<String, List<String>> tested = new TreeMap<>();
@@ -38,7 +36,7 @@ public final class SentencesTest {
         test.readDocument(Files.readString(DOCUMENT));
         test.readTests();
         test.compare();
-        test.lookForEdges();
+        test.lookForWords();
         Kit.close();
     }
 
@@ -52,7 +50,7 @@ public final class SentencesTest {
         for (int i = 1; i < parts.length; i++) {
             String name = parts[i].split("[:\n]")[0];
             String body = parts[i].substring(parts[i].indexOf('\n'));
-            document.put(name, plain(body).replaceFirst("^(int|boolean) \\w+\\([^)]*\\): ", ""));
+            document.put(name, plain(body).replaceFirst("^((int|boolean) \\w+|ForgetBread)\\([^)]*\\): ", ""));
             if (name.equals("Terms")) {
                 String[] terms = body.split("\n(?=[1-9]\\. )");
                 for (int term = 1; term < terms.length; term++) {
@@ -63,7 +61,7 @@ public final class SentencesTest {
     }
 
     private void readTests() throws IOException {
-        try (DirectoryStream<Path> files = Files.newDirectoryStream(Path.of("src/test/java"), "*EdgesTest.java")) {
+        try (DirectoryStream<Path> files = Files.newDirectoryStream(Path.of("src/test/java"), "*Test.java")) {
             for (Path file : files) {
                 Matcher named = NAMED.matcher(Files.readString(file));
                 while (named.find()) {
@@ -91,25 +89,30 @@ public final class SentencesTest {
         }
     }
 
-    private void lookForEdges() {
+    private void lookForWords() {
         for (String where : document.keySet()) {
-            if (where.startsWith("Promise ")) {
-                look(where, document.get(where).split("(?<=\\.) "), PROMISED);
-            } else if (where.startsWith("Term ")) {
-                look(where, document.get(where).split("(?<=[^ .][.;]) "), TERM);
+            if (where.startsWith("Promise ") || where.startsWith("Term ")) {
+                for (String words : withoutTest(document.get(where), tested.getOrDefault(where, List.of()))) {
+                    Kit.due(where + " has a test of \"" + words + "\"", false, true);
+                }
             }
         }
     }
 
-    private void look(String where, String[] sentences, Pattern edge) {
-        for (String sentence : sentences) {
-            if (edge.matcher(sentence).find()) {
-                boolean has = false;
-                for (String words : tested.getOrDefault(where, List.of())) {
-                    has |= words.contains(sentence) || sentence.contains(words);
-                }
-                Kit.due(where + " has a test of \"" + sentence + "\"", has, true);
+    /** What is left of a text, piece by piece, without the sentences that have a test. */
+    private static List<String> withoutTest(String text, List<String> sentences) {
+        boolean[] has = new boolean[text.length()];
+        for (String words : sentences) {
+            for (int at = text.indexOf(words); at >= 0; at = text.indexOf(words, at + 1)) {
+                Arrays.fill(has, at, at + words.length(), true);
             }
         }
+        StringBuilder left = new StringBuilder();
+        for (int at = 0; at < has.length; at++) {
+            left.append(has[at] ? '\n' : text.charAt(at));
+        }
+        List<String> pieces = new ArrayList<>(List.of(left.toString().split("\n+")));
+        pieces.removeIf(piece -> !WORD.matcher(piece).find());
+        return pieces;
     }
 }

@@ -70,7 +70,7 @@ public final class TapeEdgesTest {
     }
 
     private static void constant() {
-        Kit.sentence("Term 5", "NONE = -1: There is none.");
+        Kit.sentence("Term 5", "The constants: NONE = -1: There is none.");
         Kit.due("NONE", ForgetBread.NONE, -1);
     }
 
